@@ -766,18 +766,9 @@ public final class TouchUp {
             return lookOfCoat(coats[cell.coat], cell.sunHad, cell.air, light, aside);
         }
 
-        /** A view is a light, seen from aside (odd) or not (even). */
+        /** A view is a light, v / 2, seen from aside (v is odd) or not. */
         int views() {
             return 2 * lightCount;
-        }
-
-        int viewOfCell(int c, int view) {
-            Cell cell = cells[c];
-            return lookOfCoat(coats[cell.coat], cell.sunHad, cell.air, view / 2, view % 2 == 1);
-        }
-
-        int viewOfFresh(Coat coat, int view) {
-            return lookOfCoat(coat, 0, 0, view / 2, view % 2 == 1);
         }
 
         boolean areTraitors(int a, int b, int light, int other) {
@@ -806,7 +797,7 @@ public final class TouchUp {
         void takeAsItIs() {
             for (int c = 0; c < wall.count; c++) {
                 for (int v = 0; v < wall.views(); v++) {
-                    looks[c * MOST_VIEWS + v] = wall.viewOfCell(c, v);
+                    looks[c * MOST_VIEWS + v] = wall.lookOfCell(c, v / 2, v % 2 == 1);
                 }
             }
             unpaint();
@@ -814,7 +805,7 @@ public final class TouchUp {
 
         void takeFresh(int coat) {
             for (int v = 0; v < wall.views(); v++) {
-                looks[FRESH * MOST_VIEWS + v] = wall.viewOfFresh(wall.coats[coat], v);
+                looks[FRESH * MOST_VIEWS + v] = wall.lookOfCoat(wall.coats[coat], 0, 0, v / 2, v % 2 == 1);
             }
         }
 
@@ -987,7 +978,7 @@ public final class TouchUp {
 
         void searchFor(int c) {
             for (int v = 0; v < wall.views(); v++) {
-                now[v] = wall.viewOfCell(c, v);
+                now[v] = wall.lookOfCell(c, v / 2, v % 2 == 1);
             }
             leastUnlike = Integer.MAX_VALUE;
             fewestDrops = 0;
@@ -1022,7 +1013,8 @@ public final class TouchUp {
         private int farthestApart() {
             int most = 0;
             for (int v = 0; v < wall.views(); v++) {
-                most = Math.max(most, Math.abs(wall.viewOfFresh(mixed, v) - now[v]));
+                int fresh = wall.lookOfCoat(mixed, 0, 0, v / 2, v % 2 == 1);
+                most = Math.max(most, Math.abs(fresh - now[v]));
             }
             return most;
         }

@@ -11,6 +11,7 @@ public final class CoatsTest {
         looksAreTold();
         edgesAreSeenByLine();
         edgesAreSeenInSomeLightOrFromAside();
+        edgesAreSeenNotFromAsideAlone();
         due.end("CoatsTest");
     }
 
@@ -207,5 +208,16 @@ public final class CoatsTest {
         due.is("from aside by less than the line", x.seen(-1), 0);
         x.light(1, 1, 1);
         due.is("in the last light", x.seen(-1), 2);
+    }
+
+    private static void edgesAreSeenNotFromAsideAlone() {
+        TouchUp x = Due.walled("w12;00");
+        x.coat(1, 80, 90, 90);
+        x.paint(1, 1);
+        x.light(1, 0, 0);
+        due.is("unlike from aside", x.unlike(0, 1, 0, true), 5);
+        due.is("seen by 10, from aside by 5", x.seen(-1), 1);
+        x.set(1, 11);
+        due.is("not seen by 10, from aside by 5", x.seen(-1), 0);
     }
 }

@@ -7,6 +7,7 @@ public final class HowFarTest {
         patchesInRowsAndColumns();
         patchesThatAreNot();
         patchesAreOfTheCoatAndFresh();
+        patchesInAllLightsAndFromAside();
         leavingIsCounted();
         looksYearsOn();
         hidingTheMost();
@@ -86,6 +87,35 @@ public final class HowFarTest {
         patchIs(x, 0, 1, 3, 0, 2);
         x.set(1, 6);
         patchIs(x, 0, 1, 1, 0, 0);
+    }
+
+    private static void patchesInAllLightsAndFromAside() {
+        TouchUp x = Due.walled("w13;000");
+        x.coat(0, 90, 90, 70);
+        x.coat(1, 80, 90, 90);
+        x.light(1, 0, 0);
+        x.light(0, 0, 1);
+        // Coat 1 is unlike in the second light alone.
+        patchIs(x, 1, 1, 3, 0, 2);
+        due.is("leave(1, 1)", x.leave(1, 1), 98);
+        due.is("leave(0, 1)", x.leave(0, 1), 99);
+        // Coat 2 is unlike by 10 in the first one, from aside by 5.
+        patchIs(x, 1, 2, 3, 0, 2);
+        due.is("leave(1, 2)", x.leave(1, 2), 98);
+        x.set(1, 11);
+        patchIs(x, 1, 2, 1, 1, 1);
+        due.is("leave(1, 2)", x.leave(1, 2), 100);
+        x = Due.walled("w13;999");
+        x.light(1, 1, 1);
+        x.years(1);
+        x.set(0, 9);
+        x.set(1, 6);
+        // All have lost 0, 1, 2 by sun and 1 in each band by smoke: 6 in all; what is painted has not.
+        patchIs(x, 1, 0, 3, 0, 2);
+        due.is("leave(1, 0)", x.leave(1, 0), 98);
+        x.set(1, 7);
+        patchIs(x, 1, 0, 1, 1, 1);
+        due.is("leave(1, 0)", x.leave(1, 0), 100);
     }
 
     private static void leavingIsCounted() {

@@ -9,7 +9,10 @@ public final class MixesTest {
         theBestHasSixDropsAtMost();
         theBestOfSeveral();
         theBestTakesKindsAndAllLights();
+        theBestIsFreshWhateverTheSmoke();
+        fewerDropsWinThoughTheyComeLater();
         traitorsAreTold();
+        traitorsAreFreshAndNotFromAside();
         due.end("MixesTest");
     }
 
@@ -141,6 +144,63 @@ public final class MixesTest {
         bestIs(x, 1, 1, 1, 1, 0, 1);
     }
 
+    private static void theBestIsFreshWhateverTheSmoke() {
+        TouchUp x = Due.walled("w12;90");
+        x.set(0, 9);
+        x.light(1, 1, 1);
+        x.years(1);
+        // It has lost 0, 1, 2 by sun and 1 in each band by smoke.
+        bestIs(x, 0, 6, 1, 0, 0, 0);
+        bestIs(x, 1, 3, 1, 0, 0, 0);
+        x = Due.walled("w12;00");
+        x.coat(1, 80, 90, 90);
+        x.light(1, 0, 0);
+        x.paint(1, 1);
+        x.coat(0, 85, 90, 90);
+        x.paint(0, 2);
+        // Not from aside coat 1 is 5 apart, from aside 0; a mix of coats 0 and 1 is plain.
+        bestIs(x, 0, 0, 0, 0, 1, 0);
+        x.coat(0, 0, 0, 0);
+        x.coat(0, 70, 90, 90);
+        x.paint(0, 4);
+        x.coat(1, 66, 90, 90);
+        x.paint(1, 5);
+        // (2, 0, 2, 1) and (0, 0, 5, 1) are plain and 70: the first has fewer drops.
+        bestIs(x, 0, 0, 2, 0, 2, 1);
+        // (0, 2, 2, 1) and (0, 5, 0, 1) shine and are 66: the first has fewer drops.
+        bestIs(x, 1, 0, 0, 2, 2, 1);
+    }
+
+    private static void fewerDropsWinThoughTheyComeLater() {
+        TouchUp x = Due.walled("w12;00");
+        x.coat(0, 40, 0, 0);
+        x.coat(0, 50, 0, 0);
+        x.coat(0, 46, 0, 0);
+        x.coat(0, 65, 0, 0);
+        x.light(1, 0, 0);
+        x.paint(1, 4);
+        // (0, ..) gives 50 at most; of those that give 65 with two drops the only one is (1, 1).
+        bestIs(x, 1, 0, 1, 1, 0, 0);
+        x = Due.walled("w12;00");
+        x.coat(0, 30, 0, 0);
+        x.coat(0, 50, 0, 0);
+        x.coat(0, 70, 0, 0);
+        x.light(1, 0, 0);
+        x.coat(0, 60, 0, 0);
+        x.paint(1, 4);
+        // (0, 0, 1, 1) comes ahead of (1, 1, 0, 0); (0, 1, 0, 3) comes between them.
+        bestIs(x, 1, 0, 0, 0, 1, 1);
+        x = Due.walled("w12;00");
+        x.coat(0, 30, 0, 0);
+        x.coat(0, 0, 0, 0);
+        x.coat(0, 90, 0, 0);
+        x.light(1, 0, 0);
+        x.coat(0, 60, 0, 0);
+        x.paint(1, 4);
+        // (0, 0, 1, 2) and (0, 1, 0, 1): the second has fewer drops.
+        bestIs(x, 1, 0, 0, 1, 0, 1);
+    }
+
     private static void traitorsAre(TouchUp x, int light, int other, int... pairs) {
         String call = "traitors(" + light + ", " + other + ", ";
         due.is(call + "-1)", x.traitors(light, other, -1), pairs.length);
@@ -179,5 +239,20 @@ public final class MixesTest {
         due.is("traitors(0, -1, 0)", x.traitors(0, -1, 0), TouchUp.UNKNOWN);
         due.is("traitors(0, 1, -2)", x.traitors(0, 1, -2), TouchUp.UNKNOWN);
         due.is("traitors(0, 1, min)", x.traitors(0, 1, Integer.MIN_VALUE), TouchUp.UNKNOWN);
+    }
+
+    private static void traitorsAreFreshAndNotFromAside() {
+        TouchUp x = Due.walled("w12;00");
+        x.set(0, 9);
+        x.coat(2, 90, 80, 90);
+        x.coat(1, 90, 80, 90);
+        x.coat(0, 90, 80, 90);
+        x.light(9, 0, 9);
+        x.light(0, 1, 0);
+        // All four are alike in the first light, from aside by 90 less; the last three are alike in the other one, too.
+        traitorsAre(x, 0, 1, 1, 2, 3);
+        traitorsAre(x, 1, 0);
+        x.set(1, 1);
+        traitorsAre(x, 0, 1, 1, 2, 3);
     }
 }
