@@ -428,6 +428,15 @@ public final class BoundsOfCoatsTest {
             b.is("seen(-1), in LIGHT " + l + " alone", x.seen(-1), 1);
             x.set(1, 11);
             b.is("seen(-1), in none", x.seen(-1), 0);
+            x = Bounds.dark(1, 2);
+            x.coat(1, 90, 90, 90);
+            x.paint(1, 1);
+            for (int other = 0; other <= 3; other++) {
+                x.light(other == l ? 2 : 0, 0, 0);
+            }
+            b.is("seen(-1), from ASIDE in LIGHT " + l + " alone", x.seen(-1), 1);
+            x.set(1, 11);
+            b.is("seen(-1), from ASIDE in none", x.seen(-1), 0);
         }
         int[][] bands = {{90, 5}, {85, 5}, {95, 10}, {80, 10}, {89, 4}};
         for (int[] a : bands) {

@@ -7,6 +7,7 @@ public final class BoundsOfHowFarTest {
         everyRectangle();
         thereIsNoPatch();
         patchByLine();
+        patchOfAShinyWall();
         patchIsPaintedFreshly();
         patchRefusals();
         theLeastAndTheGreatestLeave();
@@ -113,6 +114,29 @@ public final class BoundsOfHowFarTest {
         patchIs(x, 1, 1, 6, 0, 5);
     }
 
+    /** A shiny WALL and the same COAT, fresh, are alike from ASIDE and not, in whichever LIGHT. */
+    private static void patchOfAShinyWall() {
+        b.says("painted freshly, by which no EDGE of the WALL is SEEN");
+        for (int l = 0; l <= 3; l++) {
+            TouchUp x = Bounds.dark(1, 3);
+            x.coat(1, 90, 90, 90);
+            for (int c = 0; c < 3; c++) {
+                x.paint(c, 1);
+            }
+            for (int other = 0; other <= 3; other++) {
+                x.light(other == l ? 1 : 0, 0, 0);
+            }
+            x.set(1, 5);
+            patchIs(x, 1, 1, 1, 1, 1);
+            b.is("leave(1, 1)", x.leave(1, 1), 100);
+            patchIs(x, 1, 0, 3, 0, 2);
+            b.is("leave(1, 0)", x.leave(1, 0), 98);
+            x.set(1, 6);
+            patchIs(x, 1, 0, 1, 1, 1);
+            b.is("leave(1, 0)", x.leave(1, 0), 100);
+        }
+    }
+
     private static void patchIsPaintedFreshly() {
         b.says("painted freshly");
         TouchUp x = Due.walled("w13;999");
@@ -123,6 +147,13 @@ public final class BoundsOfHowFarTest {
         x.set(1, 37);
         patchIs(x, 1, 0, 1, 1, 1);
         b.is("it is not painted", x.ofCell(1, 3), 40);
+        // A fresh one has had no air: SMOKE takes nothing from it.
+        x = Bounds.dark(1, 3);
+        x.light(1, 0, 0);
+        x.set(0, 9);
+        x.set(1, 1);
+        patchIs(x, 1, 0, 1, 1, 1);
+        b.is("leave(1, 0), SMOKE 9", x.leave(1, 0), 100);
         x = Due.walled("w13;900");
         x.light(1, 0, 0);
         x.years(40);

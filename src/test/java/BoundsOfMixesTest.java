@@ -229,6 +229,27 @@ public final class BoundsOfMixesTest {
         bestIs(x, 1, 1, 1, 5, 0, 0);
         x.paint(0, 1);
         bestIs(x, 0, 0, 0, 1, 0, 0);
+        for (int p = 1; p <= 2; p++) {
+            for (int q = p + 1; q <= 3; q++) {
+                bestOfTwo(p, q);
+                bestOfTwo(q, p);
+            }
+        }
+    }
+
+    /** One drop of a bright COAT and five of a dark one are the best, though with six of the dark one it would be better. */
+    private static void bestOfTwo(int bright, int dark) {
+        TouchUp x = Bounds.dark(1, 2);
+        for (int k = 1; k <= 3; k++) {
+            x.coat(0, k == bright ? 90 : k == dark ? 20 : 99, 0, 0);
+        }
+        x.coat(0, 30, 0, 0);
+        x.light(1, 0, 0);
+        x.paint(1, 4);
+        int[] drops = new int[4];
+        drops[bright] = 1;
+        drops[dark] = 5;
+        bestIs(x, 1, 1, drops);
     }
 
     private static void bestByTheGreatestOfAllLights() {
@@ -266,6 +287,17 @@ public final class BoundsOfMixesTest {
         bestIs(x, 1, 5, 0, 0, 0, 1);
         x.paint(0, 1);
         bestIs(x, 0, 0, 0, 0, 0, 1);
+        // In which of four LIGHTS it shines makes no difference.
+        for (int l = 0; l <= 3; l++) {
+            x = Bounds.dark(1, 2);
+            x.coat(1, 90, 0, 0);
+            x.paint(1, 1);
+            for (int other = 0; other <= 3; other++) {
+                x.light(other == l ? 1 : 0, 0, 0);
+            }
+            bestIs(x, 0, 0, 1, 0, 0, 0);
+            bestIs(x, 1, 0, 0, 1, 0, 0);
+        }
     }
 
     private static void bestFreshlyPainted() {
@@ -357,12 +389,30 @@ public final class BoundsOfMixesTest {
         x.set(0, 9);
         x.years(40);
         b.is("traitors(0, 1, -1) years on", x.traitors(0, 1, -1), 1);
+        for (int second = 9; second <= 10; second++) {
+            x = Bounds.dark(1, 2);
+            x.coat(0, 81, 90 - second, 90);
+            x.light(1, 0, 0);
+            x.light(0, 1, 0);
+            x.set(0, 9);
+            b.is("traitors(0, 1, -1), SMOKE 9, apart by " + second, x.traitors(0, 1, -1), second - 9);
+        }
         x = Bounds.dark(1, 2);
         // From ASIDE they would be unlike by 10 in the first LIGHT and by 5 in the other one.
         x.coat(1, 95, 80, 90);
         x.light(1, 0, 0);
         x.light(0, 1, 0);
         b.is("traitors(0, 1, -1), shiny", x.traitors(0, 1, -1), 1);
+        // The lesser one of COATS 1 and 2 shines, too, or alone.
+        for (int kind = 0; kind <= 2; kind++) {
+            x = Bounds.dark(1, 2);
+            x.coat(1, 19, 20, 0);
+            x.coat(kind, 10, 10, 0);
+            x.light(1, 0, 0);
+            x.light(0, 1, 0);
+            b.is("traitors(0, 1, -1), COAT 1 is shiny", x.traitors(0, 1, -1), 1);
+            b.is("traitors(0, 1, 0), COAT 1 is shiny", x.traitors(0, 1, 0), 12);
+        }
     }
 
     private static void allPairsAndNone() {
