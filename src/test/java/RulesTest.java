@@ -34,7 +34,28 @@ public final class RulesTest {
         classesInside();
         Path source = Path.of(args.length > 0 ? args[0] : ".", "src/main/java/TouchUp.java");
         text(Files.readString(source));
+        asTheDocumentWritesIt(Files.readString(source), Path.of(args.length > 0 ? args[0] : ".", "../shared/DOC.md"));
         due.end("RulesTest");
+    }
+
+    /** Each line of the document's face stands in the source, with the parameters' names, and there is no other public one. */
+    private static void asTheDocumentWritesIt(String source, Path document) throws Exception {
+        if (!Files.exists(document)) {
+            return;
+        }
+        Set<String> want = publicLines(Files.readString(document).replaceAll("(?s).*?```java\n(.*?)```.*", "$1"));
+        due.is("lines of the document's face", want.size(), 37);
+        Set<String> got = publicLines(source);
+        due.holds("public lines are the document's: " + got, got.equals(want));
+    }
+
+    private static Set<String> publicLines(String text) {
+        Set<String> found = new TreeSet<>();
+        Matcher lines = Pattern.compile("(?m)^ *(public .*?)(;| \\{)$").matcher(text);
+        while (lines.find()) {
+            found.add(lines.group(1));
+        }
+        return found;
     }
 
     private static void constants() throws Exception {
